@@ -1,0 +1,254 @@
+/** Promises 24 to 26: undo, save and restore. */
+public final class HistoryTest {
+    private static final Check CHECK = new Check("HistoryTest");
+
+    public static void main(String[] args) {
+        everyChangeCanBeUndone();
+        sixChangesAreKept();
+        errorsRecordNothing();
+        otherCallsRecordNothing();
+        changesThatChangeNothingAreRecorded();
+        undoLeavesPadSlotsAndHistory();
+        undoneStationsComeFresh();
+        saveAndRestore();
+        slotsStandApart();
+        restoreIsAChange();
+        slotsRefuse();
+        CHECK.end();
+    }
+
+    private static void due(String call, long got, long want) {
+        CHECK.due(call, got, want);
+    }
+
+    private static void same(String call, String got, String want) {
+        due(call, got.equals(want) ? 1 : 0, 1);
+    }
+
+    /** Two of three stations speak; there is something of every kind that a state holds. */
+    private static BusSilences busy() {
+        BusSilences x = new BusSilences();
+        x.set(BusSilences.TRIES, 2);
+        x.station(0b11);
+        x.station(0b01);
+        x.station(0b110);
+        for (int word = 0; word < 4; word++) x.word(0, 0, word * 50);
+        x.word(1, 0, 5);
+        x.word(2, 2, 129);
+        x.pass(60);
+        for (int word = 0; word < 3; word++) x.word(0, 0, word * 50);
+        x.word(1, 0, 7);
+        x.word(2, 2, 254);
+        x.stick(3);
+        x.pass(5);
+        due("two speak", Integer.bitCount(x.count(2)), 2);
+        x.save(0);
+        return x;
+    }
+
+    private static void change(BusSilences x, int kind) {
+        switch (kind) {
+            case 0: due("set", x.set(BusSilences.FULL, 9), 40); break;
+            case 1: due("station", x.station(9), 3); break;
+            case 2: due("word", x.word(1, 0, 77) > 0 ? 1 : 0, 1); break;
+            case 3: due("forget", x.forget(2) >= 0 ? 1 : 0, 1); break;
+            case 4: due("stick", x.stick(0), 1); break;
+            case 5: due("doze", x.doze(2), 1); break;
+            case 6: due("pass", x.pass(7) >= 0 ? 1 : 0, 1); break;
+            case 7: due("restore", x.restore(0), 3); break;
+            default:
+                TextsTest.write(x, "!a;z1;b9;sa");
+                due("carryOut", x.carryOut(), 4);
+        }
+    }
+
+    private static void everyChangeCanBeUndone() {
+        for (int kind = 0; kind <= 8; kind++) {
+            BusSilences x = busy();
+            if (kind == 7) x.pass(3);
+            String before = Snapshot.of(x);
+            change(x, kind);
+            due("something is different, kind " + kind, Snapshot.of(x).equals(before) ? 0 : 1, 1);
+            due("undo", x.undo(), 5);
+            same("undone, kind " + kind, Snapshot.of(x), before);
+        }
+        BusSilences x = busy();
+        String[] before = new String[7];
+        for (int kind = 0; kind < 6; kind++) {
+            before[kind] = Snapshot.of(x);
+            change(x, kind);
+        }
+        for (int kind = 5; kind >= 0; kind--) {
+            due("undo " + kind, x.undo(), kind);
+            same("undone " + kind, Snapshot.of(x), before[kind]);
+        }
+    }
+
+    private static void sixChangesAreKept() {
+        BusSilences x = new BusSilences();
+        for (int change = 1; change <= 9; change++) {
+            x.pass(1);
+            due("changes", x.count(16), Math.min(change, 6));
+        }
+        for (int left = 5; left >= 0; left--) {
+            due("undo", x.undo(), left);
+            due("beats", x.count(0), 3 + left);
+        }
+        due("no more", x.undo(), BusSilences.NOT_POSSIBLE);
+        due("beats", x.count(0), 3);
+        x.pass(2);
+        x.pass(5);
+        due("undo", x.undo(), 1);
+        due("beats", x.count(0), 5);
+        x.pass(9);
+        due("undo", x.undo(), 1);
+        due("undo", x.undo(), 0);
+        due("beats", x.count(0), 3);
+    }
+
+    private static void errorsRecordNothing() {
+        BusSilences x = new BusSilences();
+        x.station(1);
+        x.set(9, 9);
+        x.station(0);
+        x.word(0, 5, 5);
+        x.forget(0);
+        x.stick(6);
+        x.doze(1);
+        x.pass(0);
+        x.restore(0);
+        x.restore(2);
+        x.carryOut();
+        due("only the station", x.count(16), 1);
+        due("undo", x.undo(), 0);
+        due("undo", x.undo(), BusSilences.NOT_POSSIBLE);
+        due("no station", x.count(1), 0);
+    }
+
+    private static void otherCallsRecordNothing() {
+        BusSilences x = busy();
+        x.undo();
+        Snapshot.of(x);
+        x.why(0);
+        x.endsIn(0, 0);
+        x.quietIn();
+        x.bestRest(9, 0);
+        x.busiest();
+        x.sleepsIn(0);
+        x.put('q');
+        x.fault();
+        x.wipe();
+        x.save(1);
+        due("changes", x.count(16), 5);
+        due("undo", x.undo(), 4);
+    }
+
+    private static void changesThatChangeNothingAreRecorded() {
+        BusSilences x = new BusSilences();
+        x.set(BusSilences.REST, 3);
+        due("set", x.count(16), 1);
+        x.save(0);
+        x.restore(0);
+        due("restore", x.count(16), 2);
+        TextsTest.write(x, "z0");
+        due("no order", x.carryOut(), 0);
+        due("carryOut", x.count(16), 3);
+        due("undo", x.undo(), 2);
+    }
+
+    private static void undoLeavesPadSlotsAndHistory() {
+        BusSilences x = new BusSilences();
+        x.station(1);
+        x.pass(8);
+        x.save(1);
+        x.put('b' << 8 | '3');
+        due("undo", x.undo(), 1);
+        due("pad", x.count(15), 2);
+        due("undo", x.undo(), 0);
+        due("no station", x.count(1), 0);
+        due("the slot is kept", x.restore(1), 1);
+        due("beats", x.count(0), 8);
+        due("the pad is kept", x.carryOut(), 1);
+        due("beats", x.count(0), 11);
+        due("changes", x.count(16), 2);
+        due("undo carryOut", x.undo(), 1);
+        due("the pad stays empty", x.count(15), 0);
+        due("beats", x.count(0), 8);
+        due("undo restore", x.undo(), 0);
+        due("beats", x.count(0), 0);
+    }
+
+    private static void undoneStationsComeFresh() {
+        BusSilences x = new BusSilences();
+        x.station(1);
+        x.station(1);
+        x.word(1, 0, 3);
+        x.pass(5);
+        for (int times = 0; times < 3; times++) x.undo();
+        due("stations", x.count(1), 1);
+        due("no such", x.of(1, 0), BusSilences.NO_SUCH);
+        x.set(BusSilences.FULL, 12);
+        due("comes again", x.station(2), 1);
+        int[] want = {2, 12, 0, 0, BusSilences.NONE, 0, 0, 0, 0, 0};
+        for (int what = 0; what <= 9; what++) due("fresh " + what, x.of(1, what), want[what]);
+    }
+
+    private static void saveAndRestore() {
+        BusSilences x = busy();
+        String saved = Snapshot.of(x);
+        due("save", x.save(1), 3);
+        x.set(BusSilences.REST, 7);
+        x.station(32);
+        x.stick(5);
+        x.pass(99);
+        x.put('q');
+        due("restore", x.restore(1), 3);
+        same("restored", Snapshot.of(x), saved);
+        due("the pad stays", x.count(15), 1);
+        due("the history stays", x.count(16), 6);
+        x.pass(50);
+        String later = Snapshot.of(x);
+        due("the slot keeps it", x.restore(1), 3);
+        same("restored", Snapshot.of(x), saved);
+        x.pass(50);
+        same("and goes on alike", Snapshot.of(x), later);
+        due("overwrite", x.save(1), 3);
+        x.pass(5);
+        x.restore(1);
+        same("the last one saved", Snapshot.of(x), later);
+    }
+
+    private static void slotsStandApart() {
+        BusSilences x = new BusSilences();
+        due("save nothing", x.save(0), 0);
+        due("the other is empty", x.restore(1), BusSilences.NOT_POSSIBLE);
+        x.station(1);
+        due("save", x.save(1), 1);
+        x.station(1);
+        due("restore 0", x.restore(0), 0);
+        due("restore 1", x.restore(1), 1);
+        due("restore 0", x.restore(0), 0);
+        due("stations", x.count(1), 0);
+    }
+
+    private static void restoreIsAChange() {
+        BusSilences x = new BusSilences();
+        x.save(0);
+        x.station(1);
+        x.restore(0);
+        due("changes", x.count(16), 2);
+        due("undo", x.undo(), 1);
+        due("stations", x.count(1), 1);
+    }
+
+    private static void slotsRefuse() {
+        BusSilences x = new BusSilences();
+        int[] bad = {-1, 2, Integer.MAX_VALUE, Integer.MIN_VALUE};
+        for (int slot : bad) {
+            due("save(" + slot + ")", x.save(slot), BusSilences.BAD_VALUE);
+            due("restore(" + slot + ")", x.restore(slot), BusSilences.BAD_VALUE);
+        }
+        due("restore(0)", x.restore(0), BusSilences.NOT_POSSIBLE);
+        due("restore(1)", x.restore(1), BusSilences.NOT_POSSIBLE);
+    }
+}

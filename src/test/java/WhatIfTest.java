@@ -1,0 +1,331 @@
+/** Promises 14 to 19: what if. */
+public final class WhatIfTest {
+    private static final Check CHECK = new Check("WhatIfTest");
+
+    public static void main(String[] args) {
+        whyNamesTheFirstReason();
+        whyKnowsTheWireAndItsFault();
+        endsInTellsWhenItIsHeard();
+        endsInTellsWhenItIsLost();
+        endsInTellsOfTheFirstWordAlone();
+        endsInRefusesInOrder();
+        endsInLooks600BeatsAhead();
+        quietInTellsWhenNoWordWaits();
+        quietInLooks900BeatsAhead();
+        bestRestTakesTheGreatestOfSeveral();
+        bestRestStartsFromNow();
+        bestRestRefuses();
+        busiestTakesTheLowestOfSeveral();
+        sleepsInTellsWhenTheChargeIsGone();
+        sleepsInLooks600BeatsAhead();
+        nothingChanges();
+        CHECK.end();
+    }
+
+    private static void due(String call, long got, long want) {
+        CHECK.due(call, got, want);
+    }
+
+    private static void whyNamesTheFirstReason() {
+        BusSilences x = new BusSilences();
+        due("no such", x.why(0), BusSilences.NO_SUCH);
+        x.station(1);
+        due("no such -1", x.why(-1), BusSilences.NO_SUCH);
+        due("no such 1", x.why(1), BusSilences.NO_SUCH);
+        due("no word", x.why(0), 4);
+        x.set(BusSilences.FULL, 2);
+        x.set(BusSilences.FEED, 0);
+        x.pass(3);
+        due("asleep by itself", x.why(0), 3);
+        x.doze(0);
+        due("put to sleep", x.why(0), 2);
+        x.word(0, 0, 0);
+        due("put to sleep with a word", x.why(0), 2);
+        x.doze(0);
+        due("asleep with a word", x.why(0), 3);
+        x.set(BusSilences.FEED, 9);
+        x.pass(1);
+        due("it would", x.why(0), 0);
+        x.pass(1);
+        due("it speaks", x.why(0), 1);
+        x.doze(0);
+        due("put to sleep", x.why(0), 2);
+    }
+
+    private static void whyKnowsTheWireAndItsFault() {
+        BusSilences x = new BusSilences();
+        x.station(0b11);
+        x.word(0, 1, 0);
+        due("has not rested", x.why(0), 6);
+        x.stick(0);
+        due("a fault elsewhere", x.why(0), 6);
+        x.stick(1);
+        due("a fault", x.why(0), 5);
+        x.stick(1);
+        x.pass(2);
+        due("2 of 3", x.why(0), 6);
+        x.set(BusSilences.REST, 2);
+        due("2 of 2", x.why(0), 0);
+        x.stick(1);
+        due("a fault, but rested", x.why(0), 0);
+        x.set(BusSilences.REST, 3);
+        due("a fault", x.why(0), 5);
+    }
+
+    private static void endsInTellsWhenItIsHeard() {
+        BusSilences x = new BusSilences();
+        x.station(1);
+        x.word(0, 0, 9);
+        due("3 and 11", x.endsIn(0, 0), 14);
+        due("heard", x.endsIn(0, 1), 1);
+        x.pass(2);
+        due("1 and 11", x.endsIn(0, 0), 12);
+        x.pass(11);
+        due("the last beat", x.endsIn(0, 0), 1);
+        x.pass(1);
+        due("no word", x.endsIn(0, 0), BusSilences.NOT_POSSIBLE);
+        due("no word", x.endsIn(0, 1), BusSilences.NOT_POSSIBLE);
+    }
+
+    private static void endsInTellsWhenItIsLost() {
+        BusSilences x = new BusSilences();
+        x.station(1);
+        x.station(1);
+        x.set(BusSilences.TRIES, 1);
+        x.word(0, 0, 0);
+        x.word(1, 0, 0);
+        due("at its name's last bit", x.endsIn(1, 0), 6);
+        due("lost", x.endsIn(1, 1), 2);
+        x.set(BusSilences.TRIES, 2);
+        due("behind the other's", x.endsIn(1, 0), 28);
+        due("heard", x.endsIn(1, 1), 1);
+        x.stick(0);
+        due("never", x.endsIn(1, 0), BusSilences.NONE);
+        due("never", x.endsIn(1, 1), BusSilences.NONE);
+    }
+
+    private static void endsInTellsOfTheFirstWordAlone() {
+        BusSilences x = new BusSilences();
+        x.station(0b11);
+        x.word(0, 0, 0);
+        x.word(0, 1, 0);
+        x.pass(14);
+        due("the next word, its wire has rested", x.endsIn(0, 0), 11);
+        x.word(0, 0, 1);
+        due("one behind it changes nothing", x.endsIn(0, 0), 11);
+        due("quiet behind both", x.quietIn(), 22);
+    }
+
+    private static void endsInRefusesInOrder() {
+        BusSilences x = new BusSilences();
+        due("no such, bad what", x.endsIn(0, 2), BusSilences.NO_SUCH);
+        x.station(1);
+        due("bad what, no word", x.endsIn(0, 2), BusSilences.BAD_VALUE);
+        due("bad what, no word", x.endsIn(0, -1), BusSilences.BAD_VALUE);
+        due("no word", x.endsIn(0, 0), BusSilences.NOT_POSSIBLE);
+        due("no such", x.endsIn(-1, 0), BusSilences.NO_SUCH);
+        due("no such", x.endsIn(1, 0), BusSilences.NO_SUCH);
+    }
+
+    /**
+     * Stations that wake for some beats only and fall asleep within each word; the beats are passed
+     * until the end of the word is told, and then up to it.
+     */
+    private static void endsInLooks600BeatsAhead() {
+        BusSilences x = new BusSilences();
+        x.set(BusSilences.FULL, 99);
+        x.set(BusSilences.REST, 20);
+        x.set(BusSilences.LOAD, 9);
+        x.set(BusSilences.TRIES, 9);
+        for (int station = 0; station < 4; station++) {
+            x.station(1);
+            x.word(station, 0, 0);
+            x.pass(13);
+        }
+        due("too far", x.endsIn(3, 0), BusSilences.NONE);
+        due("too far", x.endsIn(3, 1), BusSilences.NONE);
+        int ahead = 0;
+        while (ahead < 900 && x.endsIn(3, 0) == BusSilences.NONE) {
+            x.pass(1);
+            ahead++;
+        }
+        due("just within", x.endsIn(3, 0), 600);
+        due("lost", x.endsIn(3, 1), 2);
+        x.pass(599);
+        due("not lost", x.of(3, 7), 0);
+        x.pass(1);
+        due("lost", x.of(3, 7), 1);
+    }
+
+    private static void quietInTellsWhenNoWordWaits() {
+        BusSilences x = new BusSilences();
+        due("quiet now", x.quietIn(), 0);
+        x.station(1);
+        due("quiet now", x.quietIn(), 0);
+        x.word(0, 0, 0);
+        due("one word", x.quietIn(), 14);
+        x.word(0, 0, 1);
+        due("two words", x.quietIn(), 28);
+        x.pass(28);
+        due("quiet again", x.quietIn(), 0);
+        x.word(0, 0, 0);
+        x.doze(0);
+        due("never", x.quietIn(), BusSilences.NONE);
+        x.doze(0);
+        x.set(BusSilences.TRIES, 1);
+        x.station(1);
+        x.word(1, 0, 0);
+        // The last bit was a 1, so two beats of rest; the other's word is lost meanwhile.
+        due("lost ones wait no more", x.quietIn(), 13);
+    }
+
+    private static void quietInLooks900BeatsAhead() {
+        BusSilences x = slow();
+        due("too far", x.quietIn(), BusSilences.NONE);
+        int ahead = 0;
+        while (ahead < 900 && x.quietIn() == BusSilences.NONE) {
+            x.pass(1);
+            ahead++;
+        }
+        due("just within", x.quietIn(), 900);
+        x.pass(899);
+        due("not quiet", x.count(4) > 0 ? 1 : 0, 1);
+        x.pass(1);
+        due("quiet", x.count(4), 0);
+    }
+
+    /** One station with three words, each lost after nine tries, for the station falls asleep in each. */
+    private static BusSilences slow() {
+        BusSilences x = new BusSilences();
+        x.set(BusSilences.FULL, 99);
+        x.set(BusSilences.REST, 20);
+        x.set(BusSilences.LOAD, 9);
+        x.set(BusSilences.TRIES, 9);
+        x.station(1);
+        for (int word = 0; word < 3; word++) x.word(0, 0, 0);
+        return x;
+    }
+
+    /** Seven stations with four words each for wire 0, and a last one that only loses charge there. */
+    private static BusSilences contended() {
+        BusSilences x = new BusSilences();
+        x.set(BusSilences.FULL, 99);
+        x.set(BusSilences.REST, 20);
+        x.set(BusSilences.TRIES, 9);
+        for (int station = 0; station < 7; station++) {
+            x.station(0b111);
+            for (int word = 0; word < 4; word++) x.word(station, 0, 0b11111000);
+        }
+        x.station(1);
+        return x;
+    }
+
+    private static void bestRestTakesTheGreatestOfSeveral() {
+        BusSilences x = new BusSilences();
+        due("no word", x.bestRest(200, 0), 20);
+        due("no word", x.bestRest(200, 1), 0);
+        x.station(1);
+        x.word(0, 0, 255);
+        x.word(0, 0, 255);
+        // The wire stays high for the last eight beats of each word.
+        int[][] want = {{11, 20, 0}, {12, 1, 1}, {14, 3, 1}, {23, 1, 2}, {30, 8, 2}, {32, 9, 2}, {34, 10, 2}, {200, 20, 2}};
+        for (int[] row : want) {
+            due("bestRest(" + row[0] + ", 0)", x.bestRest(row[0], 0), row[1]);
+            due("bestRest(" + row[0] + ", 1)", x.bestRest(row[0], 1), row[2]);
+        }
+        due("REST stays", x.count(10), 3);
+    }
+
+    private static void bestRestStartsFromNow() {
+        BusSilences x = new BusSilences();
+        x.station(1);
+        x.pass(7);
+        x.word(0, 0, 0);
+        due("rested for seven", x.bestRest(11, 0), 7);
+        due("one word", x.bestRest(11, 1), 1);
+        x.pass(1);
+        due("in the middle of it", x.bestRest(10, 0), 20);
+        due("one word", x.bestRest(10, 1), 1);
+        due("not in nine", x.bestRest(9, 1), 0);
+    }
+
+    private static void bestRestRefuses() {
+        BusSilences x = new BusSilences();
+        int[] bad = {0, -1, 201, Integer.MAX_VALUE, Integer.MIN_VALUE};
+        for (int beats : bad) due("bestRest(" + beats + ", 0)", x.bestRest(beats, 0), BusSilences.BAD_VALUE);
+        for (int what : new int[] {-1, 2, Integer.MAX_VALUE}) due("what " + what, x.bestRest(1, what), BusSilences.BAD_VALUE);
+    }
+
+    private static void busiestTakesTheLowestOfSeveral() {
+        BusSilences x = new BusSilences();
+        due("no word", x.busiest(), BusSilences.NONE);
+        x.station(63);
+        x.station(63);
+        due("no word", x.busiest(), BusSilences.NONE);
+        x.word(0, 5, 0);
+        due("the only one", x.busiest(), 5);
+        x.word(0, 3, 0);
+        due("the lower one", x.busiest(), 3);
+        x.word(1, 5, 0);
+        due("the one with more", x.busiest(), 5);
+        x.word(1, 3, 0);
+        x.word(1, 0, 0);
+        due("the lower one", x.busiest(), 3);
+        x.pass(4);
+        due("one that is spoken waits", x.busiest(), 3);
+    }
+
+    private static void sleepsInTellsWhenTheChargeIsGone() {
+        BusSilences x = new BusSilences();
+        due("no such", x.sleepsIn(0), BusSilences.NO_SUCH);
+        x.station(1);
+        due("no such", x.sleepsIn(1), BusSilences.NO_SUCH);
+        due("no such", x.sleepsIn(-1), BusSilences.NO_SUCH);
+        due("never", x.sleepsIn(0), BusSilences.NONE);
+        x.set(BusSilences.FEED, 0);
+        due("below 0", x.sleepsIn(0), 41);
+        x.doze(0);
+        due("put to sleep it uses none", x.sleepsIn(0), BusSilences.NONE);
+        x.doze(0);
+        x.pass(40);
+        due("the next beat", x.sleepsIn(0), 1);
+        x.pass(1);
+        due("asleep", x.sleepsIn(0), 0);
+        x.doze(0);
+        due("asleep and put to sleep", x.sleepsIn(0), 0);
+    }
+
+    private static void sleepsInLooks600BeatsAhead() {
+        BusSilences x = contended();
+        due("too far", x.sleepsIn(7), BusSilences.NONE);
+        int ahead = 0;
+        while (ahead < 200 && x.sleepsIn(7) == BusSilences.NONE) {
+            x.pass(1);
+            ahead++;
+        }
+        due("just within", x.sleepsIn(7), 600);
+        x.pass(599);
+        due("awake", x.of(7, 2), 0);
+        x.pass(1);
+        due("asleep", x.of(7, 2), 1);
+    }
+
+    private static void nothingChanges() {
+        BusSilences x = contended();
+        x.pass(30);
+        x.undo();
+        x.pass(33);
+        String before = Snapshot.of(x);
+        int changes = x.count(16);
+        for (int station = 0; station < 8; station++) {
+            x.why(station);
+            x.endsIn(station, 0);
+            x.sleepsIn(station);
+        }
+        x.quietIn();
+        x.bestRest(200, 0);
+        x.busiest();
+        due("nothing changes", Snapshot.of(x).equals(before) ? 1 : 0, 1);
+        due("nothing recorded", x.count(16), changes);
+    }
+}
