@@ -223,18 +223,13 @@ public final class BusSilences {
     public int carryOut() {
         if (reader.findFault() != NONE) return BAD_TEXT;
         history.prepare(now);
-        int carried = carryOrders();
-        pad.clear();
-        return history.keep(carried);
-    }
-
-    private int carryOrders() {
         int carried = 0;
         for (reader.at = 0; reader.at < pad.length; reader.at++) {
-            if (!reader.readOrder() || carryOrder() < 0) return carried;
+            if (!reader.readOrder() || carryOrder() < 0) break;
             carried++;
         }
-        return carried;
+        pad.clear();
+        return history.keep(carried);
     }
 
     /** Goes past the face's methods, for an order records nothing by itself. */
@@ -400,18 +395,16 @@ public final class BusSilences {
         private void beginWords(int awake) {
             for (int name = 0; name < arrived; name++) {
                 Station speaker = stations[name];
+                if (!speaker.isAwake() || speaker.isSpeaking()) continue;
                 int wire = speaker.row.wireAt(0);
-                if (speaker.isAwake() && !speaker.isSpeaking() && isRested(wire)) {
-                    speaker.nextBeat = 0;
-                    speaker.listeners = awake & stationsAt(wire);
-                }
+                if (isRested(wire)) speaker.begin(wire, awake & stationsAt(wire));
             }
         }
 
         private int pulledWires() {
             int pulled = 0;
             for (int name = 0; name < arrived; name++) {
-                if (stations[name].isSpeaking() && !stations[name].letsGo()) pulled |= stations[name].wireSpokenOn();
+                if (stations[name].isSpeaking() && !stations[name].letsGo()) pulled |= stations[name].wireSpokenOn;
             }
             return pulled;
         }
@@ -421,7 +414,7 @@ public final class BusSilences {
             for (int name = 0; name < arrived; name++) {
                 Station speaker = stations[name];
                 if (!speaker.isSpeaking()) continue;
-                if (speaker.letsGo() && (speaker.wireSpokenOn() & high) == 0) {
+                if (speaker.letsGo() && (speaker.wireSpokenOn & high) == 0) {
                     giveUp(speaker);
                 } else if (speaker.nextBeat < LAST_BEAT) {
                     speaker.nextBeat++;
@@ -440,7 +433,9 @@ public final class BusSilences {
             int wire = speaker.row.wireAt(0);
             int hearers = speaker.listeners & ~(1 << speaker.name);
             for (int name = 0; name < arrived; name++) {
-                if ((hearers >> name & 1) == 1) stations[name].hear(number, speaker.name, wire, beats);
+                if ((hearers >> name & 1) == 0) continue;
+                stations[name].latest.add(number, speaker.name, wire, beats);
+                stations[name].hearings++;
             }
             speaker.wordsHeard++;
             if (isWire(wire)) heardOn[wire]++;
@@ -500,7 +495,7 @@ public final class BusSilences {
         int speakersOn(int wires) {
             int found = 0;
             for (int name = 0; name < arrived; name++) {
-                if (stations[name].isSpeaking() && (stations[name].wireSpokenOn() & wires) != 0) found |= 1 << name;
+                if ((stations[name].wireSpokenOn & wires) != 0) found |= 1 << name;
             }
             return found;
         }
@@ -543,6 +538,9 @@ public final class BusSilences {
         boolean asleep;
         boolean dozing;
         int nextBeat = SILENT;
+        /** As a set, so that it is empty in one that does not speak. */
+        int wireSpokenOn;
+        int spokenBits;
         int listeners;
         int wordsHeard;
         int wordsLost;
@@ -561,6 +559,8 @@ public final class BusSilences {
             asleep = other.asleep;
             dozing = other.dozing;
             nextBeat = other.nextBeat;
+            wireSpokenOn = other.wireSpokenOn;
+            spokenBits = other.spokenBits;
             listeners = other.listeners;
             wordsHeard = other.wordsHeard;
             wordsLost = other.wordsLost;
@@ -582,23 +582,21 @@ public final class BusSilences {
 
         /** Whether the bit of this beat is 1; asked only of one that speaks. */
         boolean letsGo() {
-            int bits = name << WORD_BITS | row.numberAt(0);
-            return (bits >> LAST_BEAT - nextBeat & 1) == 1;
+            return (spokenBits >> LAST_BEAT - nextBeat & 1) == 1;
         }
 
-        /** The wire as a set; asked only of one that speaks. */
-        int wireSpokenOn() {
-            return 1 << row.wireAt(0);
+        void begin(int wire, int heardBy) {
+            nextBeat = 0;
+            wireSpokenOn = 1 << wire;
+            spokenBits = name << WORD_BITS | row.numberAt(0);
+            listeners = heardBy;
         }
 
         void fallSilent() {
             nextBeat = SILENT;
+            wireSpokenOn = 0;
+            spokenBits = 0;
             listeners = 0;
-        }
-
-        void hear(int number, int speaker, int wire, int beat) {
-            hearings++;
-            latest.add(number, speaker, wire, beat);
         }
 
         int fact(int what) {
@@ -672,14 +670,12 @@ public final class BusSilences {
 
         void dropFirst() {
             if (length == 0) return;
-            moveForward(numbers);
-            moveForward(wires);
-            moveForward(tries);
+            for (int rank = 1; rank < length; rank++) {
+                numbers[rank - 1] = numbers[rank];
+                wires[rank - 1] = wires[rank];
+                tries[rank - 1] = tries[rank];
+            }
             length--;
-        }
-
-        private static void moveForward(int[] numbers) {
-            System.arraycopy(numbers, 1, numbers, 0, ROW_LENGTH - 1);
         }
     }
 

@@ -103,6 +103,9 @@ public final class ChangesTest {
         due("charge of all", x.count(9), 70);
         x.set(BusSilences.FULL, 30);
         due("charge of all, cut", x.count(9), 50);
+        for (int station = 3; station < 8; station++) x.station(1);
+        x.set(BusSilences.FULL, 2);
+        due("charge of eight, cut", x.count(9), 16);
     }
 
     private static void stationComes() {

@@ -9,6 +9,7 @@ public final class HistoryTest {
         otherCallsRecordNothing();
         changesThatChangeNothingAreRecorded();
         undoLeavesPadSlotsAndHistory();
+        whatWasHeardIsUndone();
         undoneStationsComeFresh();
         saveAndRestore();
         slotsStandApart();
@@ -176,6 +177,18 @@ public final class HistoryTest {
         due("beats", x.count(0), 8);
         due("undo restore", x.undo(), 0);
         due("beats", x.count(0), 0);
+    }
+
+    private static void whatWasHeardIsUndone() {
+        BusSilences x = new BusSilences();
+        x.station(1);
+        x.station(1);
+        x.word(0, 0, 3);
+        x.pass(14);
+        due("heard", x.heard(1, 0, 0), 3);
+        x.undo();
+        due("not heard", x.heard(1, 0, 0), BusSilences.NO_SUCH);
+        due("waits again", x.count(4), 1);
     }
 
     private static void undoneStationsComeFresh() {

@@ -87,6 +87,9 @@ public final class TextsTest {
         due("no change", x.undo(), BusSilences.NOT_POSSIBLE);
         due("the old text is gone", x.put('z'), 1);
         due("the old text is gone", x.fault(), 1);
+        x.wipe();
+        due("the old text is gone", x.put('s'), 1);
+        due("the old text is gone", x.fault(), 1);
     }
 
     private static void fault(String text, int want) {
@@ -159,6 +162,10 @@ public final class TextsTest {
         fault("b10", none);
         fault("b999", none);
         fault("b1000", 4);
+        fault("b1001", 4);
+        fault("b1009", 4);
+        fault("b9990", 4);
+        fault("w0a=1009", 7);
         fault("b100a", 4);
         fault("ba", 1);
         fault("b/", 1);

@@ -224,6 +224,8 @@ public final class WhatIfTest {
         BusSilences x = new BusSilences();
         due("no word", x.bestRest(200, 0), 20);
         due("no word", x.bestRest(200, 1), 0);
+        due("one beat", x.bestRest(1, 0), 20);
+        due("one beat", x.bestRest(1, 1), 0);
         x.station(1);
         x.word(0, 0, 255);
         x.word(0, 0, 255);
@@ -273,6 +275,8 @@ public final class WhatIfTest {
         due("the lower one", x.busiest(), 3);
         x.pass(4);
         due("one that is spoken waits", x.busiest(), 3);
+        x.word(1, 0, 0);
+        due("the lowest of three", x.busiest(), 0);
     }
 
     private static void sleepsInTellsWhenTheChargeIsGone() {
