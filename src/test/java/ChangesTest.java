@@ -17,6 +17,7 @@ public final class ChangesTest {
         stickTurnsTheFaultOverAndBack();
         dozeGivesUp();
         dozeLosesAtTheLastTry();
+        aNewWordWasNeverTried();
         dozeLeavesTheSleepOfAnEmptyStation();
         passRefuses();
         passStopsAtTheGreatestBeat();
@@ -280,6 +281,18 @@ public final class ChangesTest {
         due("the next word", x.row(0, 0, 0), 8);
         due("not tried", x.row(0, 0, 2), 0);
         due("gave up twice", x.count(7), 2);
+    }
+
+    private static void aNewWordWasNeverTried() {
+        BusSilences x = new BusSilences();
+        x.station(1);
+        x.word(0, 0, 9);
+        x.pass(4);
+        x.doze(0);
+        due("tried once", x.row(0, 0, 2), 1);
+        x.forget(0);
+        due("the only word", x.word(0, 0, 9), 1);
+        due("not tried", x.row(0, 0, 2), 0);
     }
 
     private static void dozeLeavesTheSleepOfAnEmptyStation() {
