@@ -31,14 +31,8 @@ public final class BeatTest {
         CHECK.due(call, got, want);
     }
 
-    private static BusSilences withStations(int... wires) {
-        BusSilences x = new BusSilences();
-        for (int set : wires) x.station(set);
-        return x;
-    }
-
     private static void aWordTakesElevenBeats() {
-        BusSilences x = withStations(1, 1, 2);
+        BusSilences x = Scenes.withStations(1, 1, 2);
         x.word(0, 0, 255);
         due("rest", x.pass(3), 0);
         due("not begun", x.of(0, 4), BusSilences.NONE);
@@ -71,7 +65,7 @@ public final class BeatTest {
     }
 
     private static void bitsAreSpokenTheHighestFirst() {
-        BusSilences x = withStations(1, 1, 1, 1, 1, 1, 32);
+        BusSilences x = Scenes.withStations(1, 1, 1, 1, 1, 1, 32);
         x.word(6, 5, 0b10110000);
         x.pass(3);
         // The name 110, then the word; how long the wire is high by then.
@@ -84,7 +78,7 @@ public final class BeatTest {
     }
 
     private static void theLowerNameGoesOn() {
-        BusSilences x = withStations(1, 1);
+        BusSilences x = Scenes.withStations(1, 1);
         x.word(0, 0, 0b01010101);
         x.word(1, 0, 0);
         x.pass(5);
@@ -107,7 +101,7 @@ public final class BeatTest {
     }
 
     private static void theLowestOfThreeGoesOn() {
-        BusSilences x = withStations(1, 1, 1, 1);
+        BusSilences x = Scenes.withStations(1, 1, 1, 1);
         x.word(1, 0, 1);
         x.word(2, 0, 2);
         x.word(3, 0, 3);
@@ -126,7 +120,7 @@ public final class BeatTest {
     }
 
     private static void oneThatBeginsWithinAWordSilencesIt() {
-        BusSilences x = withStations(1, 1);
+        BusSilences x = Scenes.withStations(1, 1);
         x.word(0, 0, 255);
         x.pass(5);
         x.word(1, 0, 255);
@@ -143,7 +137,7 @@ public final class BeatTest {
     }
 
     private static void restIsOfTheWireOfTheFirstWord() {
-        BusSilences x = withStations(0b11);
+        BusSilences x = Scenes.withStations(0b11);
         x.stick(0);
         x.word(0, 0, 0);
         x.word(0, 1, 0);
@@ -156,7 +150,7 @@ public final class BeatTest {
     }
 
     private static void aFaultSilencesAOne() {
-        BusSilences x = withStations(1);
+        BusSilences x = Scenes.withStations(1);
         x.word(0, 0, 1);
         x.pass(3);
         x.stick(0);
@@ -172,7 +166,7 @@ public final class BeatTest {
     }
 
     private static void aFaultHearsZeros() {
-        BusSilences x = withStations(1, 1);
+        BusSilences x = Scenes.withStations(1, 1);
         x.word(0, 0, 0);
         x.pass(3);
         x.stick(0);
@@ -181,7 +175,7 @@ public final class BeatTest {
     }
 
     private static void whoSleepsInBetweenHears() {
-        BusSilences x = withStations(1, 1, 1);
+        BusSilences x = Scenes.withStations(1, 1, 1);
         x.word(0, 0, 5);
         x.pass(4);
         x.doze(2);
@@ -195,7 +189,7 @@ public final class BeatTest {
     }
 
     private static void whoSleepsAtTheEndLetsNobodyHear() {
-        BusSilences x = withStations(1, 1, 1);
+        BusSilences x = Scenes.withStations(1, 1, 1);
         x.word(0, 0, 4);
         x.pass(13);
         x.doze(2);
@@ -212,7 +206,7 @@ public final class BeatTest {
     }
 
     private static void whoWakesOrComesWithinAWordDoesNotListen() {
-        BusSilences x = withStations(1, 1, 1);
+        BusSilences x = Scenes.withStations(1, 1, 1);
         x.word(0, 0, 4);
         x.doze(2);
         x.pass(4);
@@ -226,7 +220,7 @@ public final class BeatTest {
     }
 
     private static void aWordWithoutOtherListenersIsHeard() {
-        BusSilences x = withStations(4);
+        BusSilences x = Scenes.withStations(4);
         x.word(0, 2, 200);
         due("heard", x.pass(14), 1);
         due("of it", x.of(0, 6), 1);
@@ -235,7 +229,7 @@ public final class BeatTest {
     }
 
     private static void twoWordsThatEndTogetherAreHeardInOrder() {
-        BusSilences x = withStations(1, 0b11, 2);
+        BusSilences x = Scenes.withStations(1, 0b11, 2);
         x.word(2, 1, 22);
         x.word(0, 0, 11);
         due("both", x.pass(14), 2);
@@ -248,7 +242,7 @@ public final class BeatTest {
     }
 
     private static void aWordIsLostAtItsLastTry() {
-        BusSilences x = withStations(1, 1);
+        BusSilences x = Scenes.withStations(1, 1);
         x.set(BusSilences.TRIES, 2);
         for (int n = 0; n < 3; n++) x.word(0, 0, 0);
         x.word(1, 0, 9);
@@ -270,7 +264,7 @@ public final class BeatTest {
     }
 
     private static void chargeIsFedForEachHighWire() {
-        BusSilences x = withStations(63, 0b100);
+        BusSilences x = Scenes.withStations(63, 0b100);
         x.set(BusSilences.FULL, 99);
         x.pass(1);
         due("six wires, awake", x.of(0, 1), 45);
@@ -290,7 +284,7 @@ public final class BeatTest {
     }
 
     private static void feedAndLoadCountTogether() {
-        BusSilences x = withStations(1);
+        BusSilences x = Scenes.withStations(1);
         x.set(BusSilences.LOAD, 2);
         x.pass(1);
         due("40 and 1 less 2", x.of(0, 1), 39);
@@ -307,7 +301,7 @@ public final class BeatTest {
     }
 
     private static void chargeZeroIsAwakeAndBelowIsAsleep() {
-        BusSilences x = withStations(1);
+        BusSilences x = Scenes.withStations(1);
         x.set(BusSilences.FEED, 0);
         x.pass(40);
         due("charge", x.of(0, 1), 0);
@@ -323,7 +317,7 @@ public final class BeatTest {
     }
 
     private static void asleepOnesWakeAtHalfOfFull() {
-        BusSilences x = withStations(1);
+        BusSilences x = Scenes.withStations(1);
         x.set(BusSilences.FULL, 5);
         x.set(BusSilences.FEED, 0);
         x.pass(6);
@@ -352,7 +346,7 @@ public final class BeatTest {
     }
 
     private static void asleepOnesSpeakInTheNextBeat() {
-        BusSilences x = withStations(1);
+        BusSilences x = Scenes.withStations(1);
         x.set(BusSilences.FULL, 2);
         x.set(BusSilences.FEED, 0);
         x.pass(3);
@@ -367,7 +361,7 @@ public final class BeatTest {
     }
 
     private static void fallingAsleepGivesUp() {
-        BusSilences x = withStations(1);
+        BusSilences x = Scenes.withStations(1);
         x.set(BusSilences.FEED, 0);
         x.set(BusSilences.LOAD, 9);
         x.word(0, 0, 3);
@@ -384,7 +378,7 @@ public final class BeatTest {
     }
 
     private static void aWordIsHeardAheadOfTheSleep() {
-        BusSilences x = withStations(1, 2);
+        BusSilences x = Scenes.withStations(1, 2);
         x.set(BusSilences.FULL, 23);
         x.set(BusSilences.REST, 1);
         x.set(BusSilences.FEED, 0);

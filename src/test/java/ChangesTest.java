@@ -21,6 +21,7 @@ public final class ChangesTest {
         dozeLeavesTheSleepOfAnEmptyStation();
         passRefuses();
         passStopsAtTheGreatestBeat();
+        passTellsTheWordsOfItsBeats();
         CHECK.end();
     }
 
@@ -347,5 +348,19 @@ public final class ChangesTest {
         x.set(BusSilences.FEED, 0);
         due("the bound does not matter", x.sleepsIn(0), 41);
         due("beats", x.count(0), 99999);
+    }
+
+    /** Two words end in the fourteenth beat, one in the twenty-eighth. */
+    private static void passTellsTheWordsOfItsBeats() {
+        int[][] words = {{13, 0}, {14, 2}, {27, 2}, {28, 3}, {999, 3}};
+        for (int[] row : words) {
+            BusSilences x = Scenes.withStations(0b01, 0b10);
+            x.word(0, 0, 0);
+            x.word(0, 0, 0);
+            x.word(1, 1, 0);
+            due("pass(" + row[0] + ")", x.pass(row[0]), row[1]);
+            due("heard so far", x.count(5), row[1]);
+            due("heard behind it", x.pass(28), 3 - row[1]);
+        }
     }
 }

@@ -9,9 +9,12 @@ public final class HistoryTest {
         otherCallsRecordNothing();
         changesThatChangeNothingAreRecorded();
         undoLeavesPadSlotsAndHistory();
+        everyChangeIsRecordedOnce();
+        aWordGoesOnAsItWas();
         whatWasHeardIsUndone();
         undoneStationsComeFresh();
         saveAndRestore();
+        slotsKeepWhatTheyRestore();
         slotsStandApart();
         restoreIsAChange();
         slotsRefuse();
@@ -26,27 +29,6 @@ public final class HistoryTest {
         due(call, got.equals(want) ? 1 : 0, 1);
     }
 
-    /** Two of three stations speak; there is something of every kind that a state holds. */
-    private static BusSilences busy() {
-        BusSilences x = new BusSilences();
-        x.set(BusSilences.TRIES, 2);
-        x.station(0b11);
-        x.station(0b01);
-        x.station(0b110);
-        for (int word = 0; word < 4; word++) x.word(0, 0, word * 50);
-        x.word(1, 0, 5);
-        x.word(2, 2, 129);
-        x.pass(60);
-        for (int word = 0; word < 3; word++) x.word(0, 0, word * 50);
-        x.word(1, 0, 7);
-        x.word(2, 2, 254);
-        x.stick(3);
-        x.pass(5);
-        due("two speak", Integer.bitCount(x.count(2)), 2);
-        x.save(0);
-        return x;
-    }
-
     private static void change(BusSilences x, int kind) {
         switch (kind) {
             case 0: due("set", x.set(BusSilences.FULL, 9), 40); break;
@@ -58,30 +40,36 @@ public final class HistoryTest {
             case 6: due("pass", x.pass(7) >= 0 ? 1 : 0, 1); break;
             case 7: due("restore", x.restore(0), 3); break;
             default:
-                TextsTest.write(x, "!a;z1;b9;sa");
+                Scenes.write(x, "!a;z1;b9;sa");
                 due("carryOut", x.carryOut(), 4);
         }
     }
 
+    /** Those of the kinds from 0 up to this one, made one after the other. */
+    private static BusSilences changedUpTo(int kinds) {
+        BusSilences x = Scenes.busy();
+        for (int kind = 0; kind < kinds; kind++) change(x, kind);
+        return x;
+    }
+
     private static void everyChangeCanBeUndone() {
         for (int kind = 0; kind <= 8; kind++) {
-            BusSilences x = busy();
-            if (kind == 7) x.pass(3);
-            String before = Snapshot.of(x);
+            BusSilences left = Scenes.busy();
+            BusSilences x = Scenes.busy();
+            if (kind == 7) {
+                left.pass(3);
+                x.pass(3);
+            }
+            String before = Snapshot.of(left);
             change(x, kind);
             due("something is different, kind " + kind, Snapshot.of(x).equals(before) ? 0 : 1, 1);
             due("undo", x.undo(), 5);
             same("undone, kind " + kind, Snapshot.of(x), before);
         }
-        BusSilences x = busy();
-        String[] before = new String[7];
-        for (int kind = 0; kind < 6; kind++) {
-            before[kind] = Snapshot.of(x);
-            change(x, kind);
-        }
-        for (int kind = 5; kind >= 0; kind--) {
-            due("undo " + kind, x.undo(), kind);
-            same("undone " + kind, Snapshot.of(x), before[kind]);
+        for (int kinds = 0; kinds < 6; kinds++) {
+            BusSilences x = changedUpTo(6);
+            for (int left = 5; left >= kinds; left--) due("undo", x.undo(), left);
+            same("undone down to " + kinds, Snapshot.of(x), Snapshot.of(changedUpTo(kinds)));
         }
     }
 
@@ -127,7 +115,8 @@ public final class HistoryTest {
     }
 
     private static void otherCallsRecordNothing() {
-        BusSilences x = busy();
+        BusSilences x = Scenes.busy();
+        due("two speak", Integer.bitCount(x.count(2)), 2);
         x.undo();
         Snapshot.of(x);
         x.why(0);
@@ -151,7 +140,7 @@ public final class HistoryTest {
         x.save(0);
         x.restore(0);
         due("restore", x.count(16), 2);
-        TextsTest.write(x, "z0");
+        Scenes.write(x, "z0");
         due("no order", x.carryOut(), 0);
         due("carryOut", x.count(16), 3);
         due("undo", x.undo(), 2);
@@ -177,6 +166,61 @@ public final class HistoryTest {
         due("beats", x.count(0), 8);
         due("undo restore", x.undo(), 0);
         due("beats", x.count(0), 0);
+    }
+
+    /** "each method that is a change, and returns no error, records the state before it" */
+    private static void everyChangeIsRecordedOnce() {
+        BusSilences x = new BusSilences();
+        due("station", x.station(1), 0);
+        due("recorded", x.count(16), 1);
+        due("word", x.word(0, 0, 9), 1);
+        due("recorded", x.count(16), 2);
+        due("forget", x.forget(0), 9);
+        due("recorded", x.count(16), 3);
+        due("stick", x.stick(0), 1);
+        due("recorded", x.count(16), 4);
+        due("doze", x.doze(0), 1);
+        due("recorded", x.count(16), 5);
+        due("pass", x.pass(1), 0);
+        due("recorded", x.count(16), 6);
+        x = new BusSilences();
+        due("set", x.set(BusSilences.REST, 9), 3);
+        due("recorded", x.count(16), 1);
+        due("save", x.save(1), 0);
+        due("not recorded", x.count(16), 1);
+        due("restore", x.restore(1), 0);
+        due("recorded", x.count(16), 2);
+        Scenes.write(x, "sa;sb;b1;z0");
+        due("not recorded", x.count(16), 2);
+        due("carryOut", x.carryOut(), 4);
+        due("recorded", x.count(16), 3);
+        due("undo", x.undo(), 2);
+        due("not recorded", x.count(16), 2);
+    }
+
+    /** The bits of a word that is half spoken, and how far it is, come back with it. */
+    private static void aWordGoesOnAsItWas() {
+        for (int spoken = 1; spoken <= 10; spoken++) {
+            for (int kind = 0; kind <= 1; kind++) {
+                BusSilences x = Scenes.withStations(1, 1);
+                x.word(1, 0, 0b10110010);
+                x.word(1, 0, 0b01001101);
+                x.pass(3 + spoken);
+                x.save(0);
+                x.pass(19 - spoken);
+                due("the next word is in its middle", x.of(1, 4), 5);
+                due("gone back", kind == 0 ? x.undo() : x.restore(0), kind == 0 ? 5 : 2);
+                due("the beat that comes next", x.of(1, 4), spoken);
+                due("its listeners", x.of(1, 5), 0b11);
+                int bits = 0;
+                for (int beat = spoken; beat <= 10; beat++) {
+                    x.pass(1);
+                    bits = bits * 2 + (x.ofWire(0, 0) > 0 ? 1 : 0);
+                }
+                due("the bits that were left", bits, (1 << 8 | 0b10110010) & (1 << 11 - spoken) - 1);
+                due("heard", x.heard(0, 0, 0), 0b10110010);
+            }
+        }
     }
 
     private static void whatWasHeardIsUndone() {
@@ -206,29 +250,43 @@ public final class HistoryTest {
         for (int what = 0; what <= 9; what++) due("fresh " + what, x.of(1, what), want[what]);
     }
 
-    private static void saveAndRestore() {
-        BusSilences x = busy();
-        String saved = Snapshot.of(x);
+    /** Saved in slot 1, and much different since. */
+    private static BusSilences savedAndChanged() {
+        BusSilences x = Scenes.busy();
         due("save", x.save(1), 3);
         x.set(BusSilences.REST, 7);
         x.station(32);
         x.stick(5);
         x.pass(99);
         x.put('q');
+        return x;
+    }
+
+    private static void saveAndRestore() {
+        BusSilences kept = Scenes.busy();
+        BusSilences x = savedAndChanged();
         due("restore", x.restore(1), 3);
-        same("restored", Snapshot.of(x), saved);
+        same("restored", Snapshot.of(x), Snapshot.of(kept));
         due("the pad stays", x.count(15), 1);
         due("the history stays", x.count(16), 6);
+        kept.pass(50);
         x.pass(50);
-        String later = Snapshot.of(x);
+        same("and goes on alike", Snapshot.of(x), Snapshot.of(kept));
+    }
+
+    private static void slotsKeepWhatTheyRestore() {
+        BusSilences x = savedAndChanged();
+        due("restore", x.restore(1), 3);
+        x.pass(50);
         due("the slot keeps it", x.restore(1), 3);
-        same("restored", Snapshot.of(x), saved);
+        same("restored again", Snapshot.of(x), Snapshot.of(Scenes.busy()));
         x.pass(50);
-        same("and goes on alike", Snapshot.of(x), later);
         due("overwrite", x.save(1), 3);
         x.pass(5);
-        x.restore(1);
-        same("the last one saved", Snapshot.of(x), later);
+        due("restore", x.restore(1), 3);
+        BusSilences later = Scenes.busy();
+        later.pass(50);
+        same("the last one saved", Snapshot.of(x), Snapshot.of(later));
     }
 
     private static void slotsStandApart() {

@@ -1,6 +1,7 @@
 /** Long runs of calls, always the same ones, on the class and on the model: each answer must be alike. */
 public final class ModelTest {
-    private static final int RUNS = 400, CALLS = 512;
+    /** The document promises 512 calls; to compare all there is takes 363 of them, a turn three at most. */
+    private static final int RUNS = 800, CALLS = 512, COMPARED = 363, TURN = 3;
     private static final String[] ORDERS = {"sa", "sab", "sfc", "sabcdef", "w0a=0", "w1b=255", "w2a=170", "w0f=999", "!a", "!f", "z0",
         "z1", "z9", "b1", "b7", "b30", "b0", "b999", "w0a=5;w1a=6", "sa;sa;b12"};
 
@@ -9,6 +10,7 @@ public final class ModelTest {
     private BusSilences x;
     private Model model;
     private int style;
+    private int made;
 
     public static void main(String[] args) {
         ModelTest test = new ModelTest();
@@ -45,15 +47,18 @@ public final class ModelTest {
         style = run % 8;
         x = new BusSilences();
         model = new Model();
-        for (int call = 0; call < CALLS; call++) {
-            String at = "run " + run + ", call " + call + ": ";
-            if (call < 8 && style != 0) {
+        made = 0;
+        boolean comparedAtItsEnd = run / 8 % 2 == 0;
+        int calls = comparedAtItsEnd ? CALLS - COMPARED : CALLS;
+        for (int turn = 0; made + TURN <= calls; turn++) {
+            String at = "run " + run + ", turn " + turn + ": ";
+            if (turn < 8 && style != 0) {
                 begin(at);
             } else {
                 call(at);
             }
         }
-        compareAll("run " + run + ", at its end: ");
+        if (comparedAtItsEnd) compareAll("run " + run + ", at its end: ");
     }
 
     private void compareAll(String at) {
@@ -225,7 +230,9 @@ public final class ModelTest {
         }
     }
 
+    /** Each answer is that of one call. */
     private void due(String call, long got, long want) {
+        made++;
         check.due(call, got, want);
     }
 }

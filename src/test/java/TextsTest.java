@@ -21,15 +21,6 @@ public final class TextsTest {
         CHECK.due(call, got, want);
     }
 
-    /** Puts a text, eight characters at a time, the rest last. */
-    static void write(BusSilences x, String text) {
-        for (int from = 0; from < text.length(); from += 8) {
-            long characters = 0;
-            for (int at = from; at < Math.min(from + 8, text.length()); at++) characters = characters << 8 | text.charAt(at);
-            x.put(characters);
-        }
-    }
-
     private static void putTakesEightCharacters() {
         BusSilences x = new BusSilences();
         due("one", x.put(33), 1);
@@ -68,7 +59,7 @@ public final class TextsTest {
         due("a bad one", x.put(0), BusSilences.BAD_VALUE);
         due("80", x.count(15), 80);
         due("80", x.wipe(), 80);
-        write(x, "b1;b1;b1;b1;b1;b1;b1;b1;b1;b1;b1;b1;b1;b1;b1;b1;b1;b1;b1;b1;b1;b1;b1;b1;b1;b1;b1");
+        Scenes.write(x, "b1;b1;b1;b1;b1;b1;b1;b1;b1;b1;b1;b1;b1;b1;b1;b1;b1;b1;b1;b1;b1;b1;b1;b1;b1;b1;b1");
         due("a full text", x.count(15), 80);
         due("a full text", x.fault(), BusSilences.NONE);
         due("27 orders", x.carryOut(), 27);
@@ -78,7 +69,7 @@ public final class TextsTest {
     private static void wipeEmpties() {
         BusSilences x = new BusSilences();
         due("empty", x.wipe(), 0);
-        write(x, "sa;b5;q");
+        Scenes.write(x, "sa;b5;q");
         due("seven", x.wipe(), 7);
         due("empty", x.count(15), 0);
         due("empty", x.fault(), 0);
@@ -94,7 +85,7 @@ public final class TextsTest {
 
     private static void fault(String text, int want) {
         BusSilences x = new BusSilences();
-        write(x, text);
+        Scenes.write(x, text);
         due("length of " + text, x.count(15), text.length());
         due("fault of " + text, x.fault(), want);
         due("the pad stays", x.count(15), text.length());
@@ -195,7 +186,7 @@ public final class TextsTest {
 
     private static void carryOutCarriesAll() {
         BusSilences x = new BusSilences();
-        write(x, "sfa;sb;w0f=254;w1b=7;!c;z1;b3;!c;!d");
+        Scenes.write(x, "sfa;sb;w0f=254;w1b=7;!c;z1;b3;!c;!d");
         due("no fault", x.fault(), BusSilences.NONE);
         due("orders", x.carryOut(), 9);
         due("the pad is empty", x.count(15), 0);
@@ -214,13 +205,13 @@ public final class TextsTest {
 
     private static void carryOutStopsAtAnError() {
         BusSilences x = new BusSilences();
-        write(x, "sa;b2;w0b=1;b5;sc");
+        Scenes.write(x, "sa;b2;w0b=1;b5;sc");
         due("two orders", x.carryOut(), 2);
         due("the pad is empty", x.count(15), 0);
         due("beats", x.count(0), 2);
         due("stations", x.count(1), 1);
         due("one change", x.count(16), 1);
-        write(x, "z5;b1");
+        Scenes.write(x, "z5;b1");
         due("none", x.carryOut(), 0);
         due("a change all the same", x.count(16), 2);
         due("nothing is different", x.count(0), 2);
@@ -231,13 +222,13 @@ public final class TextsTest {
     private static void carryOutRefusesAFault() {
         BusSilences x = new BusSilences();
         due("empty", x.carryOut(), BusSilences.BAD_TEXT);
-        write(x, "sa;b2;q");
+        Scenes.write(x, "sa;b2;q");
         due("a fault at its end", x.carryOut(), BusSilences.BAD_TEXT);
         due("the pad stays", x.count(15), 7);
         due("nothing was done", x.count(1), 0);
         due("nothing recorded", x.count(16), 0);
         x.wipe();
-        write(x, "sa;");
+        Scenes.write(x, "sa;");
         due("too early an end", x.carryOut(), BusSilences.BAD_TEXT);
         due("mended", x.put('b' << 8 | '1'), 5);
         due("carried out", x.carryOut(), 2);
@@ -246,7 +237,7 @@ public final class TextsTest {
     private static void carryOutIsOneChange() {
         BusSilences x = new BusSilences();
         x.pass(4);
-        write(x, "sa;sb;sc;sd;se;sf;b9;!a;z3");
+        Scenes.write(x, "sa;sb;sc;sd;se;sf;b9;!a;z3");
         due("orders", x.carryOut(), 9);
         due("one change", x.count(16), 2);
         x.put('b' << 8 | '1');
@@ -259,7 +250,7 @@ public final class TextsTest {
 
     private static void stops(String text, int carried) {
         BusSilences x = new BusSilences();
-        write(x, text);
+        Scenes.write(x, text);
         due("no fault in " + text, x.fault(), BusSilences.NONE);
         due("orders of " + text, x.carryOut(), carried);
         due("the pad is empty", x.count(15), 0);
@@ -277,7 +268,7 @@ public final class TextsTest {
         stops("b999;b999", 2);
         BusSilences x = new BusSilences();
         for (int times = 0; times < 100; times++) x.pass(999);
-        write(x, "b90;b10;b9");
+        Scenes.write(x, "b90;b10;b9");
         due("too many beats", x.carryOut(), 1);
         due("beats", x.count(0), 99990);
     }

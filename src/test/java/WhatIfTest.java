@@ -9,15 +9,12 @@ public final class WhatIfTest {
         endsInTellsWhenItIsLost();
         endsInTellsOfTheFirstWordAlone();
         endsInRefusesInOrder();
-        endsInLooks600BeatsAhead();
         quietInTellsWhenNoWordWaits();
-        quietInLooks900BeatsAhead();
         bestRestTakesTheGreatestOfSeveral();
         bestRestStartsFromNow();
         bestRestRefuses();
         busiestTakesTheLowestOfSeveral();
         sleepsInTellsWhenTheChargeIsGone();
-        sleepsInLooks600BeatsAhead();
         nothingChanges();
         CHECK.end();
     }
@@ -127,36 +124,6 @@ public final class WhatIfTest {
         due("no such", x.endsIn(1, 0), BusSilences.NO_SUCH);
     }
 
-    /**
-     * Stations that wake for some beats only and fall asleep within each word; the beats are passed
-     * until the end of the word is told, and then up to it.
-     */
-    private static void endsInLooks600BeatsAhead() {
-        BusSilences x = new BusSilences();
-        x.set(BusSilences.FULL, 99);
-        x.set(BusSilences.REST, 20);
-        x.set(BusSilences.LOAD, 9);
-        x.set(BusSilences.TRIES, 9);
-        for (int station = 0; station < 4; station++) {
-            x.station(1);
-            x.word(station, 0, 0);
-            x.pass(13);
-        }
-        due("too far", x.endsIn(3, 0), BusSilences.NONE);
-        due("too far", x.endsIn(3, 1), BusSilences.NONE);
-        int ahead = 0;
-        while (ahead < 900 && x.endsIn(3, 0) == BusSilences.NONE) {
-            x.pass(1);
-            ahead++;
-        }
-        due("just within", x.endsIn(3, 0), 600);
-        due("lost", x.endsIn(3, 1), 2);
-        x.pass(599);
-        due("not lost", x.of(3, 7), 0);
-        x.pass(1);
-        due("lost", x.of(3, 7), 1);
-    }
-
     private static void quietInTellsWhenNoWordWaits() {
         BusSilences x = new BusSilences();
         due("quiet now", x.quietIn(), 0);
@@ -177,47 +144,6 @@ public final class WhatIfTest {
         x.word(1, 0, 0);
         // The last bit was a 1, so two beats of rest; the other's word is lost meanwhile.
         due("lost ones wait no more", x.quietIn(), 13);
-    }
-
-    private static void quietInLooks900BeatsAhead() {
-        BusSilences x = slow();
-        due("too far", x.quietIn(), BusSilences.NONE);
-        int ahead = 0;
-        while (ahead < 900 && x.quietIn() == BusSilences.NONE) {
-            x.pass(1);
-            ahead++;
-        }
-        due("just within", x.quietIn(), 900);
-        x.pass(899);
-        due("not quiet", x.count(4) > 0 ? 1 : 0, 1);
-        x.pass(1);
-        due("quiet", x.count(4), 0);
-    }
-
-    /** One station with three words, each lost after nine tries, for the station falls asleep in each. */
-    private static BusSilences slow() {
-        BusSilences x = new BusSilences();
-        x.set(BusSilences.FULL, 99);
-        x.set(BusSilences.REST, 20);
-        x.set(BusSilences.LOAD, 9);
-        x.set(BusSilences.TRIES, 9);
-        x.station(1);
-        for (int word = 0; word < 3; word++) x.word(0, 0, 0);
-        return x;
-    }
-
-    /** Seven stations with four words each for wire 0, and a last one that only loses charge there. */
-    private static BusSilences contended() {
-        BusSilences x = new BusSilences();
-        x.set(BusSilences.FULL, 99);
-        x.set(BusSilences.REST, 20);
-        x.set(BusSilences.TRIES, 9);
-        for (int station = 0; station < 7; station++) {
-            x.station(0b111);
-            for (int word = 0; word < 4; word++) x.word(station, 0, 0b11111000);
-        }
-        x.station(1);
-        return x;
     }
 
     private static void bestRestTakesTheGreatestOfSeveral() {
@@ -299,28 +225,8 @@ public final class WhatIfTest {
         due("asleep and put to sleep", x.sleepsIn(0), 0);
     }
 
-    private static void sleepsInLooks600BeatsAhead() {
-        BusSilences x = contended();
-        due("too far", x.sleepsIn(7), BusSilences.NONE);
-        int ahead = 0;
-        while (ahead < 200 && x.sleepsIn(7) == BusSilences.NONE) {
-            x.pass(1);
-            ahead++;
-        }
-        due("just within", x.sleepsIn(7), 600);
-        x.pass(599);
-        due("awake", x.of(7, 2), 0);
-        x.pass(1);
-        due("asleep", x.of(7, 2), 1);
-    }
-
     private static void nothingChanges() {
-        BusSilences x = contended();
-        x.pass(30);
-        x.undo();
-        x.pass(33);
-        String before = Snapshot.of(x);
-        int changes = x.count(16);
+        BusSilences x = inTurn();
         for (int station = 0; station < 8; station++) {
             x.why(station);
             x.endsIn(station, 0);
@@ -329,7 +235,16 @@ public final class WhatIfTest {
         x.quietIn();
         x.bestRest(200, 0);
         x.busiest();
-        due("nothing changes", Snapshot.of(x).equals(before) ? 1 : 0, 1);
-        due("nothing recorded", x.count(16), changes);
+        due("nothing changes", Snapshot.of(x).equals(Snapshot.of(inTurn())) ? 1 : 0, 1);
+        due("nothing recorded", x.count(16), 5);
+    }
+
+    /** Eight stations that speak in turn, one change of theirs undone. */
+    private static BusSilences inTurn() {
+        BusSilences x = Scenes.throng();
+        x.pass(30);
+        x.pass(3);
+        x.undo();
+        return x;
     }
 }
