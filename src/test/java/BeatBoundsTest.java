@@ -5,8 +5,10 @@ public final class BeatBoundsTest {
     public static void main(String[] args) {
         aWireHasRestedForRestBeats();
         aStationAsleepDoesNotBegin();
+        oneThatSpeaksDoesNotBeginAgain();
         onlyThoseAwakeThenListen();
         whoWokeOneBeatAheadListens();
+        onlyItsWordsWireIsPulled();
         eachOneIsSilencedByALowWire();
         zerosGoOnOnALowWire();
         aWordIsHeardIfAllAreAwake();
@@ -16,11 +18,13 @@ public final class BeatBoundsTest {
         triesOrMoreLosesTheWord();
         aChangeOfTriesCountsAtTheNextTry();
         fedForEachHighWire();
+        aPulledWireFeedsNobody();
         fedAndUsedTogether();
         atMostFull();
         belowZeroIsAsleep();
         asleepItUsesNone();
         fallingAsleepGivesUp();
+        fallingAsleepInSilenceIsNoTry();
         awakeAtHalfOfFull();
         putToSleepItDoesNotWake();
         highForOneMoreOr0();
@@ -64,6 +68,26 @@ public final class BeatBoundsTest {
         x.pass(20);
         due("nobody begins", x.count(2), 0);
         due("one gave up", x.count(7), 1);
+        due("its word waits", x.of(3, 3), 1);
+        due("none was heard", x.count(5), 0);
+    }
+
+    /** "does not speak": the wire is high all along the word, and for longer than REST. */
+    private static void oneThatSpeaksDoesNotBeginAgain() {
+        BusSilences x = Scenes.withStations(1, 1, 1, 1, 1, 1, 1, 0b10);
+        x.set(BusSilences.REST, 1);
+        x.word(7, 1, 255);
+        x.word(7, 1, 255);
+        x.pass(1);
+        for (int beat = 1; beat <= 10; beat++) {
+            due("not heard yet", x.pass(1), 0);
+            due("the wire is high", x.ofWire(1, 0), beat + 1);
+            due("the beat that comes next", x.of(7, 4), beat);
+        }
+        due("heard", x.pass(1), 1);
+        due("silent", x.of(7, 4), BusSilences.NONE);
+        x.pass(1);
+        due("the next word", x.of(7, 4), 1);
     }
 
     /** "Those at the wire who are awake then (itself too) listen to it." */
@@ -108,6 +132,19 @@ public final class BeatBoundsTest {
         x.station(0b01);
         x.set(BusSilences.FEED, 0);
         return x;
+    }
+
+    /** "a station that speaks on it has the bit 0": not its other wires, and each of the wires on which one speaks */
+    private static void onlyItsWordsWireIsPulled() {
+        BusSilences x = Scenes.withStations(0b000011, 0b001100, 0b110000);
+        x.word(0, 1, 255);
+        x.word(1, 2, 255);
+        x.word(2, 5, 255);
+        x.pass(3);
+        x.stick(4);
+        x.pass(1);
+        int[] highFor = {4, 0, 0, 4, 0, 0};
+        for (int wire = 0; wire < 6; wire++) due("high for, wire " + wire, x.ofWire(wire, 0), highFor[wire]);
     }
 
     /** "if its bit is 1 and its wire is low, it gives up", in the last beat too */
@@ -272,6 +309,21 @@ public final class BeatBoundsTest {
         }
     }
 
+    /** A wire that is pulled low is no more high than one with a fault, for all who are at it. */
+    private static void aPulledWireFeedsNobody() {
+        BusSilences x = new BusSilences();
+        x.set(BusSilences.FULL, 10);
+        for (int wires : new int[] {0b001, 0b011, 0b111, 0b100}) x.station(wires);
+        x.set(BusSilences.FULL, 99);
+        x.set(BusSilences.LOAD, 0);
+        x.pass(3);
+        x.word(0, 0, 255);
+        x.set(BusSilences.FEED, 9);
+        x.pass(1);
+        int[] charges = {13, 25, 37, 22};
+        for (int station = 0; station < 4; station++) due("charge of " + station, x.of(station, 1), charges[station]);
+    }
+
     /** "and uses LOAD if it is awake, both together; then its charge is at most FULL" */
     private static void fedAndUsedTogether() {
         BusSilences x = Scenes.withStations(1);
@@ -355,6 +407,21 @@ public final class BeatBoundsTest {
                 due("gave up", x.of(0, 9), charge == 12 ? 1 : 0);
             }
         }
+    }
+
+    /** "if it speaks, it gives up": one that only waits does not. */
+    private static void fallingAsleepInSilenceIsNoTry() {
+        BusSilences x = Scenes.withStations(1);
+        x.set(BusSilences.TRIES, 1);
+        x.set(BusSilences.FULL, 2);
+        x.set(BusSilences.LOAD, 9);
+        x.stick(0);
+        x.word(0, 0, 3);
+        x.pass(1);
+        due("asleep", x.of(0, 2), 1);
+        due("did not give up", x.of(0, 9), 0);
+        due("its word waits", x.of(0, 3), 1);
+        due("and was never tried", x.row(0, 0, 2), 0);
     }
 
     /** "One asleep by itself whose charge is FULL / 2 or more [...] is awake again.", "Divisions are rounded down." */

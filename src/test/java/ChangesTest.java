@@ -19,6 +19,7 @@ public final class ChangesTest {
         dozeLosesAtTheLastTry();
         aNewWordWasNeverTried();
         dozeLeavesTheSleepOfAnEmptyStation();
+        otherChangesLetAWordGoOn();
         passRefuses();
         passStopsAtTheGreatestBeat();
         passTellsTheWordsOfItsBeats();
@@ -318,6 +319,43 @@ public final class ChangesTest {
         due("awake", x.of(0, 2), 0);
     }
 
+    private static void changeElsewhere(BusSilences x, int kind) {
+        switch (kind) {
+            case 0: due("set", x.set(BusSilences.REST, 20), 3); break;
+            case 1: due("set", x.set(BusSilences.FULL, 99), 40); break;
+            case 2: due("set", x.set(BusSilences.LOAD, 0), 1); break;
+            case 3: due("set", x.set(BusSilences.FEED, 0), 1); break;
+            case 4: due("set", x.set(BusSilences.TRIES, 1), 4); break;
+            case 5: due("station", x.station(1), 3); break;
+            case 6: due("word behind it", x.word(0, 0, 7), 2); break;
+            case 7: due("word of a listener", x.word(1, 0, 7), 1); break;
+            case 8: due("forget", x.forget(2), 9); break;
+            case 9: due("stick", x.stick(3), 1); break;
+            case 10: due("doze", x.doze(2), 1); break;
+            case 11: due("save", x.save(0), 3); due("restore", x.restore(0), 3); break;
+            case 12: due("pass", x.pass(1), 0); due("undo", x.undo(), 5); break;
+            default: Scenes.write(x, "!d;sa;w0a=7"); due("carryOut", x.carryOut(), 3);
+        }
+    }
+
+    /** What is changed elsewhere leaves the word that is spoken, and those who listen to it, as they are. */
+    private static void otherChangesLetAWordGoOn() {
+        for (int kind = 0; kind <= 13; kind++) {
+            BusSilences x = Scenes.withStations(1, 1, 0b110);
+            x.stick(1);
+            x.word(2, 1, 9);
+            x.word(0, 0, 0b10101010);
+            x.pass(8);
+            changeElsewhere(x, kind);
+            due("the beat that comes next, kind " + kind, x.of(0, 4), 5);
+            due("those who listen, kind " + kind, x.of(0, 5), 0b011);
+            due("not heard yet", x.pass(5), 0);
+            due("heard, kind " + kind, x.pass(1), 1);
+            due("as it was spoken", x.heard(1, 0, 0), 0b10101010);
+            due("did not give up", x.of(0, 9), 0);
+        }
+    }
+
     private static void passRefuses() {
         BusSilences x = new BusSilences();
         int[] bad = {0, -1, 1000, Integer.MAX_VALUE, Integer.MIN_VALUE};
@@ -342,6 +380,7 @@ public final class ChangesTest {
         due("one more", x.pass(1), BusSilences.NOT_POSSIBLE);
         x.station(1);
         x.word(0, 0, 0);
+        due("the bound does not matter", x.why(0), 0);
         due("the bound does not matter", x.endsIn(0, 0), 11);
         due("the bound does not matter", x.quietIn(), 11);
         due("the bound does not matter", x.bestRest(11, 1), 1);

@@ -12,6 +12,8 @@ public final class HistoryTest {
         everyChangeIsRecordedOnce();
         aWordGoesOnAsItWas();
         whatWasHeardIsUndone();
+        countsSoFarAreUndone();
+        stationsComeBackWithTheirWires();
         undoneStationsComeFresh();
         saveAndRestore();
         slotsKeepWhatTheyRestore();
@@ -235,6 +237,38 @@ public final class HistoryTest {
         due("waits again", x.count(4), 1);
     }
 
+    private static void countsSoFarAreUndone() {
+        BusSilences x = Scenes.withStations(1, 1);
+        x.set(BusSilences.TRIES, 1);
+        x.word(0, 0, 3);
+        x.word(1, 0, 4);
+        x.pass(14);
+        int[][] then = {{1, 0, 0, 0}, {0, 1, 1, 1}};
+        for (int station = 0; station <= 1; station++) {
+            for (int what = 6; what <= 9; what++) due("of(" + station + ", " + what + ")", x.of(station, what), then[station][what - 6]);
+        }
+        due("heard on the wire", x.ofWire(0, 5), 1);
+        due("lost on the wire", x.ofWire(0, 6), 1);
+        x.undo();
+        for (int station = 0; station <= 1; station++) {
+            for (int what = 6; what <= 9; what++) due("undone, of(" + station + ", " + what + ")", x.of(station, what), 0);
+        }
+        due("undone on the wire", x.ofWire(0, 5), 0);
+        due("undone on the wire", x.ofWire(0, 6), 0);
+        for (int what = 5; what <= 7; what++) due("undone, count(" + what + ")", x.count(what), 0);
+    }
+
+    private static void stationsComeBackWithTheirWires() {
+        BusSilences x = Scenes.withStations(0b000111);
+        x.save(0);
+        x.undo();
+        x.station(0b110000);
+        due("restore", x.restore(0), 1);
+        due("the wires that were saved", x.of(0, 0), 0b000111);
+        x.undo();
+        due("the wires ahead of it", x.of(0, 0), 0b110000);
+    }
+
     private static void undoneStationsComeFresh() {
         BusSilences x = new BusSilences();
         x.station(1);
@@ -300,6 +334,12 @@ public final class HistoryTest {
         due("restore 1", x.restore(1), 1);
         due("restore 0", x.restore(0), 0);
         due("stations", x.count(1), 0);
+        for (int station = 0; station < 8; station++) {
+            x.station(1);
+            due("saved stations", x.save(station % 2), station + 1);
+        }
+        due("restore 0", x.restore(0), 7);
+        due("restore 1", x.restore(1), 8);
     }
 
     private static void restoreIsAChange() {

@@ -14,7 +14,7 @@ public final class ModelTest {
 
     public static void main(String[] args) {
         ModelTest test = new ModelTest();
-        for (int run = 0; run < RUNS; run++) test.run(run);
+        for (int run = 0; run < RUNS; run++) test.answersAreAlike(run);
         test.check.end();
     }
 
@@ -42,7 +42,7 @@ public final class ModelTest {
         return oneIn(30) || stations == 0 ? mostly(9) : below(stations);
     }
 
-    private void run(int run) {
+    private void answersAreAlike(int run) {
         seed = run * 7919L + 1;
         style = run % 8;
         x = new BusSilences();

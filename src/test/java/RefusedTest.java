@@ -198,6 +198,7 @@ public final class RefusedTest {
     private static void anUndoneObjectRefuses() {
         Way way = () -> {
             BusSilences x = Scenes.withStations(1, 3);
+            x.pass(2);
             x.save(1);
             for (int change = 0; change < 6; change++) x.word(change % 2, 0, change);
             for (int change = 0; change < 6; change++) x.undo();

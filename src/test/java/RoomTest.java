@@ -25,11 +25,13 @@ public final class RoomTest {
         (x, time) -> x.save(time % 2), (x, time) -> x.restore(0));
 
     public static void main(String[] args) {
-        for (int kind = 0; kind < CALLS_OF_EACH_KIND.size(); kind++) {
-            long bytes = taken(CALLS_OF_EACH_KIND.get(kind));
-            CHECK.due("a run of calls of kind " + kind + " takes " + bytes + " bytes, and has room", bytes <= ROOM_BYTES ? 1 : 0, 1);
-        }
+        for (int kind = 0; kind < CALLS_OF_EACH_KIND.size(); kind++) aRunHasRoom(kind);
         CHECK.end();
+    }
+
+    private static void aRunHasRoom(int kind) {
+        long bytes = taken(CALLS_OF_EACH_KIND.get(kind));
+        CHECK.due("a run of calls of kind " + kind + " takes " + bytes + " bytes, and has room", bytes <= ROOM_BYTES ? 1 : 0, 1);
     }
 
     /** The bytes that an object takes with all calls made on it. */

@@ -7,8 +7,10 @@ public final class ViewsTest {
         stationsTell();
         rowsTell();
         theLatestFourAreKnown();
+        theLastBeatOfAllIsTold();
         heardRefusesInOrder();
         countsTell();
+        soFarEachCountIsItsOwn();
         viewsRecordNothing();
         CHECK.end();
     }
@@ -136,6 +138,17 @@ public final class ViewsTest {
         due("heard", x.of(1, 8), 5);
     }
 
+    /** "the beat in which it ended, the first beat being 0": of 99999 beats the last one is 99998. */
+    private static void theLastBeatOfAllIsTold() {
+        BusSilences x = Scenes.withStations(1, 1);
+        Scenes.late(x, 11);
+        x.word(0, 0, 7);
+        due("heard in the last eleven", x.pass(11), 1);
+        due("beats", x.count(0), 99999);
+        due("its beat", x.heard(1, 0, 3), 99998);
+        due("no more beats", x.pass(1), BusSilences.NOT_POSSIBLE);
+    }
+
     private static void heardRefusesInOrder() {
         BusSilences x = new BusSilences();
         due("nobody", x.heard(0, 0, 0), BusSilences.NO_SUCH);
@@ -172,9 +185,36 @@ public final class ViewsTest {
         for (int what : nothing) due("count(" + what + ")", x.count(what), BusSilences.BAD_VALUE);
     }
 
+    /** No two of the numbers are alike that another count could be taken for. */
+    private static void soFarEachCountIsItsOwn() {
+        BusSilences x = Scenes.withStations(1, 1, 1, 1, 0b110);
+        x.set(BusSilences.LOAD, 0);
+        x.set(BusSilences.TRIES, 2);
+        x.stick(1);
+        x.stick(5);
+        for (int word = 0; word < 4; word++) x.word(4, 1, word);
+        x.word(0, 0, 0);
+        x.word(3, 0, 0);
+        due("0 is heard, 3 gives up, and is heard behind it", x.pass(28), 2);
+        x.word(1, 0, 5);
+        Scenes.giveUpOnce(x, 1);
+        Scenes.giveUpOnce(x, 1);
+        for (int word = 0; word < 3; word++) x.word(2, 0, word);
+        x.pass(4);
+        x.doze(3);
+        Scenes.write(x, "b1;b2;b3");
+        int[] want = {40, 5, 0b00100, 0b10111, 7, 2, 1, 3, 0b100010, 200, 3, 40, 0, 1, 2, 8, 6};
+        for (int what = 0; what < want.length; what++) due("count(" + what + ")", x.count(what), want[what]);
+        int[][] ofEach = {{1, 0, 1, 0}, {0, 1, 2, 2}, {0, 0, 2, 0}, {1, 0, 1, 1}, {0, 0, 0, 0}};
+        for (int station = 0; station < 5; station++) {
+            for (int what = 6; what <= 9; what++) due("of(" + station + ", " + what + ")", x.of(station, what), ofEach[station][what - 6]);
+        }
+    }
+
     private static void viewsRecordNothing() {
-        BusSilences x = busy();
+        BusSilences x = Scenes.busy();
         x.undo();
+        due("words were heard", x.count(5) > 0 ? 1 : 0, 1);
         due("five left", x.count(16), 5);
         String before = Snapshot.of(x);
         due("views change nothing", Snapshot.of(x).equals(before) ? 1 : 0, 1);

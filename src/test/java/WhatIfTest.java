@@ -16,6 +16,7 @@ public final class WhatIfTest {
         busiestTakesTheLowestOfSeveral();
         sleepsInTellsWhenTheChargeIsGone();
         nothingChanges();
+        whatIsKeptDoesNotChange();
         CHECK.end();
     }
 
@@ -225,8 +226,7 @@ public final class WhatIfTest {
         due("asleep and put to sleep", x.sleepsIn(0), 0);
     }
 
-    private static void nothingChanges() {
-        BusSilences x = inTurn();
+    private static void askAll(BusSilences x) {
         for (int station = 0; station < 8; station++) {
             x.why(station);
             x.endsIn(station, 0);
@@ -235,8 +235,41 @@ public final class WhatIfTest {
         x.quietIn();
         x.bestRest(200, 0);
         x.busiest();
+    }
+
+    private static void nothingChanges() {
+        BusSilences x = inTurn();
+        askAll(x);
         due("nothing changes", Snapshot.of(x).equals(Snapshot.of(inTurn())) ? 1 : 0, 1);
         due("nothing recorded", x.count(16), 5);
+    }
+
+    /** The states of the history, those in the slots, and the pad's text show only when they are gone back to, or carried out. */
+    private static void whatIsKeptDoesNotChange() {
+        for (int way = 0; way <= 7; way++) {
+            BusSilences asked = kept();
+            BusSilences left = kept();
+            askAll(asked);
+            due("what is kept, way " + way, bringBack(asked, way), bringBack(left, way));
+            due("as it was, way " + way, Snapshot.of(asked).equals(Snapshot.of(left)) ? 1 : 0, 1);
+        }
+    }
+
+    private static int bringBack(BusSilences x, int way) {
+        if (way <= 1) return x.restore(way);
+        if (way == 2) return x.carryOut();
+        for (int time = 3; time < way; time++) x.undo();
+        return x.undo();
+    }
+
+    private static BusSilences kept() {
+        BusSilences x = inTurn();
+        x.save(1);
+        x.pass(40);
+        x.save(0);
+        x.stick(1);
+        Scenes.write(x, "z3;b25");
+        return x;
     }
 
     /** Eight stations that speak in turn, one change of theirs undone. */
