@@ -224,9 +224,11 @@ public final class BusSilences {
         if (reader.findFault() != NONE) return BAD_TEXT;
         history.prepare(now);
         int carried = 0;
-        for (reader.at = 0; reader.at < pad.length; reader.at++) {
-            if (!reader.readOrder() || carryOrder() < 0) break;
+        reader.at = 0;
+        while (carried < PAD_LENGTH && reader.readOrder() && carryOrder() >= 0) {
             carried++;
+            // Past the ";" or the end: a text without a fault has nothing else behind an order.
+            reader.at++;
         }
         pad.clear();
         return history.keep(carried);
@@ -767,10 +769,11 @@ public final class BusSilences {
         }
 
         int findFault() {
-            for (at = 0; at < pad.length; at++) {
-                if (!readOrder()) return at;
+            at = 0;
+            for (int orders = 0; orders < PAD_LENGTH && readOrder(); orders++) {
                 if (at >= pad.length) return NONE;
                 if (pad.codeAt(at) != ';') return at;
+                at++;
             }
             return at;
         }
